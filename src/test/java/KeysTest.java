@@ -47,6 +47,10 @@ public final class KeysTest {
         Check.due("put(0, 5) the same", x.put(0, 5), 2);
         Check.due("count(0)", x.count(0), 2);
         Check.due("count(5)", x.count(5), 2);
+        x.put(99, 1);
+        x.flush();
+        Check.due("the row has the new value", x.row(0, 0, 1), 5);
+        Check.due("so has the last one", x.row(0, 1, 1), 1);
     }
 
     private static void putRefused() {

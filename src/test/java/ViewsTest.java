@@ -93,6 +93,11 @@ public final class ViewsTest {
             x.put(key, 0);
         }
         Check.due("value 0 is a value", x.shut(0), 6);
+        x.flush();
+        x.view();
+        x.put(0, 1);
+        x.drop(99);
+        Check.due("the first key and the last", x.shut(0), 2);
     }
 
     private static void shutRefused() {
