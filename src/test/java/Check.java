@@ -2,15 +2,29 @@
 final class Check {
     private static int asked = 0;
     private static int wrong = 0;
+    private static String sentence = "";
 
     private Check() {
+    }
+
+    /** Names the document's sentence that the answers from here on are due by, so that a wrong one tells it. */
+    static void says(String words) {
+        sentence = "\"" + words + "\": ";
     }
 
     static void due(String what, long got, long want) {
         asked++;
         if (got != want) {
             wrong++;
-            System.out.println(what + " answered " + got + ", due is " + want);
+            System.out.println(sentence + what + " answered " + got + ", due is " + want);
+        }
+    }
+
+    static void due(String what, String got, String want) {
+        asked++;
+        if (!got.equals(want)) {
+            wrong++;
+            System.out.println(sentence + what + "\n  is  " + got + "\n  due " + want);
         }
     }
 
@@ -22,21 +36,13 @@ final class Check {
         }
     }
 
-    /** A new segment of rows (key, value), in the order in which they are put. */
-    static int flushed(SegmentMerges x, int... rows) {
-        for (int i = 0; i + 1 < rows.length; i += 2) {
-            x.put(rows[i], rows[i + 1]);
-        }
-        return x.flush();
-    }
-
     static int shareOrThrown(SegmentMerges x) {
         try {
             return x.share();
         } catch (ArithmeticException e) {
             // the machine's own exception is no answer
             due("share() threw what the machine throws", "/ by zero".equals(e.getMessage()) ? 1 : 0, 0);
-            return Integer.MIN_VALUE;
+            return Model.THROWN;
         }
     }
 }

@@ -75,13 +75,13 @@ public final class KeysTest {
 
     private static void putKillsRowInSegment() {
         SegmentMerges x = new SegmentMerges();
-        Check.flushed(x, 7, 70, 8, 80);
+        States.flushed(x, 7, 70, 8, 80);
         Check.due("put of the same value", x.put(7, 70), 1);
         Check.due("its row is dead all the same", x.row(0, 0, 2), 0);
         Check.due("the other lives", x.row(0, 1, 2), 1);
         Check.due("living ones", x.count(3), 1);
         Check.due("keys with a value", x.count(5), 2);
-        Check.flushed(x);
+        States.flushed(x);
         x.put(7, 71);
         Check.due("the later row dies, too", x.row(1, 0, 2), 0);
         Check.due("its value stays in the dead row", x.row(1, 0, 1), 70);
@@ -90,7 +90,7 @@ public final class KeysTest {
 
     private static void refusedPutChangesNothing() {
         SegmentMerges x = new SegmentMerges();
-        Check.flushed(x, 50, 5);
+        States.flushed(x, 50, 5);
         for (int key = 0; key < 6; key++) {
             x.put(key, key);
         }
@@ -111,7 +111,7 @@ public final class KeysTest {
         Check.due("drop again", x.drop(0), 0);
         Check.due("count(0)", x.count(0), 0);
         Check.due("get(0)", x.get(0), -3);
-        Check.flushed(x, 99, 1, 98, 2);
+        States.flushed(x, 99, 1, 98, 2);
         Check.due("drop(99) in a segment", x.drop(99), 1);
         Check.due("its row is dead", x.row(0, 1, 2), 0);
         Check.due("drop(99) again", x.drop(99), 0);
@@ -150,7 +150,7 @@ public final class KeysTest {
         Check.due("get(100)", x.get(100), -1);
         Check.due("next(-1)", x.next(-1), -1);
         Check.due("next(100)", x.next(100), -1);
-        Check.flushed(x, 20, 0, 40, 4);
+        States.flushed(x, 20, 0, 40, 4);
         x.put(30, 3);
         x.put(99, 9);
         Check.due("next(0)", x.next(0), 20);
@@ -184,7 +184,7 @@ public final class KeysTest {
         }
         Check.due("WRITTEN", x.count(4), 3);
         Check.due("the value is still had", x.get(6), 3);
-        Check.flushed(x, 1, 1);
+        States.flushed(x, 1, 1);
         Check.due("the newest stands last", x.segment(1, 0), 1);
         Check.due("the eldest first", x.segment(0, 0), 0);
     }
@@ -196,7 +196,7 @@ public final class KeysTest {
         x.drop(1);
         Check.due("flush of what was dropped", x.flush(), -3);
         for (int s = 0; s < 20; s++) {
-            Check.due("flush " + s, Check.flushed(x, s, s), s);
+            Check.due("flush " + s, States.flushed(x, s, s), s);
         }
         Check.due("flush of nothing with 20 segments: -3 first", x.flush(), -3);
         x.put(50, 1);
@@ -213,13 +213,13 @@ public final class KeysTest {
 
     private static void flushNumbersGoOn() {
         SegmentMerges x = new SegmentMerges();
-        Check.flushed(x, 1, 1);
-        Check.flushed(x, 2, 2);
+        States.flushed(x, 1, 1);
+        States.flushed(x, 2, 2);
         x.begin(0, 2);
-        Check.due("a flush while merging takes the next number", Check.flushed(x, 3, 3), 2);
+        Check.due("a flush while merging takes the next number", States.flushed(x, 3, 3), 2);
         x.step(2);
         Check.due("the new one's number", x.segment(0, 0), 3);
-        Check.due("the next flush's number", Check.flushed(x, 4, 4), 4);
+        Check.due("the next flush's number", States.flushed(x, 4, 4), 4);
         Check.due("its place is the last", x.segment(2, 0), 4);
     }
 }

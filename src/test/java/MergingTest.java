@@ -21,16 +21,8 @@ public final class MergingTest {
         Check.finish();
     }
 
-    private static SegmentMerges ofSingles(int n) {
-        SegmentMerges x = new SegmentMerges();
-        for (int s = 0; s < n; s++) {
-            Check.flushed(x, s, 10 * s);
-        }
-        return x;
-    }
-
     private static void beginRefused() {
-        SegmentMerges x = ofSingles(3);
+        SegmentMerges x = States.ofSingles(3);
         Check.due("begin(-1, 2)", x.begin(-1, 2), -1);
         Check.due("begin(3, 2)", x.begin(3, 2), -1);
         Check.due("begin(3, 9): no such place first", x.begin(3, 9), -1);
@@ -53,15 +45,15 @@ public final class MergingTest {
 
     private static void beginOrdinary() {
         SegmentMerges x = new SegmentMerges();
-        Check.flushed(x, 1, 1, 2, 2, 3, 3);
-        Check.flushed(x, 1, 4, 5, 5);
+        States.flushed(x, 1, 1, 2, 2, 3, 3);
+        States.flushed(x, 1, 4, 5, 5);
         x.drop(2);
         Check.due("dead ones are taken, too", x.begin(0, 2), 5);
         Check.due("count(1) stays", x.count(1), 2);
     }
 
     private static void beginOfSix() {
-        SegmentMerges x = ofSingles(20);
+        SegmentMerges x = States.ofSingles(20);
         Check.due("begin(15, 6)", x.begin(15, 6), -1);
         Check.due("begin(14, 6)", x.begin(14, 6), 6);
         Check.due("step", x.step(1000), 6);
@@ -72,7 +64,7 @@ public final class MergingTest {
     }
 
     private static void stepRefused() {
-        SegmentMerges x = ofSingles(2);
+        SegmentMerges x = States.ofSingles(2);
         Check.due("step(0) of none", x.step(0), -3);
         Check.due("step(1) of none", x.step(1), -3);
         Check.due("step(-1): -2 first", x.step(-1), -2);
@@ -89,9 +81,9 @@ public final class MergingTest {
 
     private static void stepTakesLeastKeyFirst() {
         SegmentMerges x = new SegmentMerges();
-        Check.flushed(x, 10, 1, 30, 2, 50, 3);
-        Check.flushed(x, 20, 4, 30, 5, 40, 6);
-        Check.flushed(x, 5, 7, 30, 8, 60, 9);
+        States.flushed(x, 10, 1, 30, 2, 50, 3);
+        States.flushed(x, 20, 4, 30, 5, 40, 6);
+        States.flushed(x, 5, 7, 30, 8, 60, 9);
         x.begin(0, 3);
         // 5, 10, 20, 30 dead, 30 dead, 30 living, 40, 50, 60
         int[] written = {1, 2, 3, 3, 3, 4, 5, 6};
@@ -115,8 +107,8 @@ public final class MergingTest {
     /** Two rows of one key: the dead one of the eldest is taken first, so the living one can still die untaken. */
     private static void stepEndsAtOnce() {
         SegmentMerges x = new SegmentMerges();
-        Check.flushed(x, 1, 1);
-        Check.flushed(x, 1, 2);
+        States.flushed(x, 1, 1);
+        States.flushed(x, 1, 2);
         x.begin(0, 2);
         Check.due("the eldest's", x.step(1), 1);
         Check.due("it was dead", x.merging(1), 0);
@@ -129,10 +121,10 @@ public final class MergingTest {
     }
 
     private static void newSegmentStandsWhereTheOthersStood() {
-        SegmentMerges x = ofSingles(5);
+        SegmentMerges x = States.ofSingles(5);
         x.begin(1, 3);
         x.step(1);
-        Check.flushed(x, 50, 5);
+        States.flushed(x, 50, 5);
         Check.due("the flushed one stands last", x.segment(5, 0), 5);
         x.step(2);
         int[] numbers = {0, 6, 4, 5};
@@ -149,7 +141,7 @@ public final class MergingTest {
     }
 
     private static void tierIsOneMoreThanTheGreatest() {
-        SegmentMerges x = ofSingles(6);
+        SegmentMerges x = States.ofSingles(6);
         x.begin(1, 2);
         x.step(1000);
         Check.due("0 and 0", x.segment(1, 1), 1);
@@ -163,8 +155,8 @@ public final class MergingTest {
 
     private static void rowsThatDieWhileMerging() {
         SegmentMerges x = new SegmentMerges();
-        Check.flushed(x, 1, 1, 2, 2, 3, 3);
-        Check.flushed(x, 4, 4, 5, 5, 6, 6);
+        States.flushed(x, 1, 1, 2, 2, 3, 3);
+        States.flushed(x, 4, 4, 5, 5, 6, 6);
         x.begin(0, 2);
         x.step(3);
         x.drop(1);
@@ -190,14 +182,14 @@ public final class MergingTest {
     }
 
     private static void sameValueWhileMerging() {
-        SegmentMerges x = ofSingles(2);
+        SegmentMerges x = States.ofSingles(2);
         x.begin(0, 2);
         x.step(1);
         x.put(0, 0);
         x.step(1);
         Check.due("put of the same value kills the written row", x.row(0, 0, 2), 0);
         Check.due("the other lives", x.row(0, 1, 2), 1);
-        x = ofSingles(2);
+        x = States.ofSingles(2);
         x.begin(0, 2);
         x.step(1);
         x.put(0, 3);
@@ -208,7 +200,7 @@ public final class MergingTest {
     }
 
     private static void nothingWritten() {
-        SegmentMerges x = ofSingles(4);
+        SegmentMerges x = States.ofSingles(4);
         x.drop(1);
         x.drop(2);
         x.begin(1, 2);
@@ -216,8 +208,8 @@ public final class MergingTest {
         Check.due("no new segment", x.count(1), 2);
         Check.due("the one ahead", x.segment(0, 0), 0);
         Check.due("the one behind", x.segment(1, 0), 3);
-        Check.due("no number is used", Check.flushed(x, 60, 6), 4);
-        x = ofSingles(2);
+        Check.due("no number is used", States.flushed(x, 60, 6), 4);
+        x = States.ofSingles(2);
         x.begin(0, 2);
         x.step(1);
         x.drop(0);
@@ -230,7 +222,7 @@ public final class MergingTest {
     }
 
     private static void stop() {
-        SegmentMerges x = ofSingles(3);
+        SegmentMerges x = States.ofSingles(3);
         Check.due("stop of none", x.stop(), -3);
         x.begin(0, 3);
         Check.due("stop at once", x.stop(), 0);
@@ -241,7 +233,7 @@ public final class MergingTest {
         Check.due("stop: taken, dead ones, too", x.stop(), 2);
         Check.due("the segments stay", x.count(1), 3);
         Check.due("their rows, too", x.count(2), 3);
-        Check.due("no number was used", Check.flushed(x, 9, 9), 3);
+        Check.due("no number was used", States.flushed(x, 9, 9), 3);
         Check.due("a new one begins at the first row", x.begin(0, 4), 4);
         Check.due("nothing taken of it", x.merging(0), 0);
         x.step(4);
@@ -249,7 +241,7 @@ public final class MergingTest {
     }
 
     private static void stopKeepsDeadRows() {
-        SegmentMerges x = ofSingles(2);
+        SegmentMerges x = States.ofSingles(2);
         x.begin(0, 2);
         x.step(1);
         x.drop(0);
@@ -263,7 +255,7 @@ public final class MergingTest {
     }
 
     private static void merging() {
-        SegmentMerges x = ofSingles(5);
+        SegmentMerges x = States.ofSingles(5);
         Check.due("merging(0) of none", x.merging(0), -3);
         Check.due("merging(-1): -2 first", x.merging(-1), -2);
         Check.due("merging(4): -2 first", x.merging(4), -2);
@@ -286,9 +278,9 @@ public final class MergingTest {
 
     private static void moved() {
         SegmentMerges x = new SegmentMerges();
-        Check.flushed(x, 1, 1, 3, 3, 5, 5);
-        Check.flushed(x, 2, 2, 3, 4, 4, 4);
-        Check.flushed(x, 9, 9);
+        States.flushed(x, 1, 1, 3, 3, 5, 5);
+        States.flushed(x, 2, 2, 3, 4, 4, 4);
+        States.flushed(x, 9, 9);
         x.begin(0, 2);
         x.step(1);
         Check.due("while it goes on", x.moved(0, 0), -1);
@@ -310,7 +302,7 @@ public final class MergingTest {
     }
 
     private static void movedOfTheLatestThatEnded() {
-        SegmentMerges x = ofSingles(4);
+        SegmentMerges x = States.ofSingles(4);
         x.begin(0, 2);
         x.step(2);
         x.begin(0, 2);
@@ -330,7 +322,7 @@ public final class MergingTest {
     }
 
     private static void movedWhenNothingWasWritten() {
-        SegmentMerges x = ofSingles(4);
+        SegmentMerges x = States.ofSingles(4);
         x.begin(0, 2);
         x.step(2);
         x.drop(2);

@@ -35,10 +35,9 @@ public final class ModelTest {
             int call = draw(random, WEIGHTS[kind]);
             int[] a = arguments(random, call, KEY_RANGES[kind]);
             int want = ofModel(m, call, a);
-            int got = ofObject(x, call, a);
+            int got = Face.answer(x, call, a[0], a[1], a[2]);
             KINDS_OF_ANSWERS.add(call + " " + (want < 0 ? want : 0));
-            Check.due("run " + run + ", call " + c + ": number " + call + " of the face ("
-                    + a[0] + ", " + a[1] + ", " + a[2] + ")", got, want);
+            Check.due("run " + run + ", call " + c + ": " + Face.told(call, a[0], a[1], a[2]), got, want);
             if (got != want) {
                 return;
             }
@@ -65,31 +64,31 @@ public final class ModelTest {
         }
         int key = random.nextInt(keys);
         switch (call) {
-            case 0:
+            case Face.PUT:
                 return of(key, random.nextInt(3) == 0 ? random.nextInt(1000) : random.nextInt(3), 0);
-            case 1: case 2: case 3:
+            case Face.DROP: case Face.GET: case Face.NEXT:
                 return of(key, 0, 0);
-            case 5:
+            case Face.COUNT:
                 return of(random.nextInt(6), 0, 0);
-            case 6:
+            case Face.SEGMENT:
                 return of(random.nextInt(8), random.nextInt(5), 0);
-            case 7:
+            case Face.ROW:
                 return of(random.nextInt(8), random.nextInt(9), random.nextInt(3));
-            case 8:
+            case Face.FULL:
                 return of(2 + random.nextInt(4), 0, 0);
-            case 10:
+            case Face.CHEAPEST:
                 return of(2 + random.nextInt(5), 0, 0);
-            case 12:
+            case Face.BEGIN:
                 return of(random.nextInt(8), 2 + random.nextInt(random.nextInt(5) + 1), 0);
-            case 13:
+            case Face.STEP:
                 return of(random.nextInt(4) == 0 ? 1000 : random.nextInt(12), 0, 0);
-            case 15:
+            case Face.MERGING:
                 return of(random.nextInt(4), 0, 0);
-            case 16:
+            case Face.MOVED:
                 return of(random.nextInt(50), random.nextInt(9), 0);
-            case 18:
+            case Face.SEEN:
                 return of(random.nextInt(4), key, 0);
-            case 19:
+            case Face.SHUT:
                 return of(random.nextInt(4), 0, 0);
             default:
                 return of(0, 0, 0);
@@ -106,54 +105,28 @@ public final class ModelTest {
         return odd[random.nextInt(odd.length)];
     }
 
-    static int ofObject(SegmentMerges x, int call, int[] a) {
-        switch (call) {
-            case 0: return x.put(a[0], a[1]);
-            case 1: return x.drop(a[0]);
-            case 2: return x.get(a[0]);
-            case 3: return x.next(a[0]);
-            case 4: return x.flush();
-            case 5: return x.count(a[0]);
-            case 6: return x.segment(a[0], a[1]);
-            case 7: return x.row(a[0], a[1], a[2]);
-            case 8: return x.full(a[0]);
-            case 9: return x.due();
-            case 10: return x.cheapest(a[0]);
-            case 11: return x.worst();
-            case 12: return x.begin(a[0], a[1]);
-            case 13: return x.step(a[0]);
-            case 14: return x.stop();
-            case 15: return x.merging(a[0]);
-            case 16: return x.moved(a[0], a[1]);
-            case 17: return x.view();
-            case 18: return x.seen(a[0], a[1]);
-            case 19: return x.shut(a[0]);
-            default: return Check.shareOrThrown(x);
-        }
-    }
-
     private static int ofModel(Model m, int call, int[] a) {
         switch (call) {
-            case 0: return m.put(a[0], a[1]);
-            case 1: return m.drop(a[0]);
-            case 2: return m.get(a[0]);
-            case 3: return m.next(a[0]);
-            case 4: return m.flush();
-            case 5: return m.count(a[0]);
-            case 6: return m.segment(a[0], a[1]);
-            case 7: return m.row(a[0], a[1], a[2]);
-            case 8: return m.full(a[0]);
-            case 9: return m.due();
-            case 10: return m.cheapest(a[0]);
-            case 11: return m.worst();
-            case 12: return m.begin(a[0], a[1]);
-            case 13: return m.step(a[0]);
-            case 14: return m.stop();
-            case 15: return m.merging(a[0]);
-            case 16: return m.moved(a[0], a[1]);
-            case 17: return m.view();
-            case 18: return m.seen(a[0], a[1]);
-            case 19: return m.shut(a[0]);
+            case Face.PUT: return m.put(a[0], a[1]);
+            case Face.DROP: return m.drop(a[0]);
+            case Face.GET: return m.get(a[0]);
+            case Face.NEXT: return m.next(a[0]);
+            case Face.FLUSH: return m.flush();
+            case Face.COUNT: return m.count(a[0]);
+            case Face.SEGMENT: return m.segment(a[0], a[1]);
+            case Face.ROW: return m.row(a[0], a[1], a[2]);
+            case Face.FULL: return m.full(a[0]);
+            case Face.DUE: return m.due();
+            case Face.CHEAPEST: return m.cheapest(a[0]);
+            case Face.WORST: return m.worst();
+            case Face.BEGIN: return m.begin(a[0], a[1]);
+            case Face.STEP: return m.step(a[0]);
+            case Face.STOP: return m.stop();
+            case Face.MERGING: return m.merging(a[0]);
+            case Face.MOVED: return m.moved(a[0], a[1]);
+            case Face.VIEW: return m.view();
+            case Face.SEEN: return m.seen(a[0], a[1]);
+            case Face.SHUT: return m.shut(a[0]);
             default: return m.share();
         }
     }

@@ -15,7 +15,7 @@ public final class NeverThrowsTest {
     }
 
     private static void oddArgumentsOnANewObject() {
-        for (int call = 0; call <= 20; call++) {
+        for (int call = 0; call < Face.CALLS; call++) {
             for (int a : ODD) {
                 for (int b : ODD) {
                     SegmentMerges x = new SegmentMerges();
@@ -29,7 +29,7 @@ public final class NeverThrowsTest {
         Random random = new Random(1);
         SegmentMerges x = new SegmentMerges();
         for (int c = 0; c < 300000; c++) {
-            int call = random.nextInt(4) == 0 ? 4 * random.nextInt(2) : random.nextInt(21);
+            int call = random.nextInt(4) == 0 ? Face.FLUSH * random.nextInt(2) : random.nextInt(Face.CALLS);
             int a = random.nextInt(3) == 0 ? ODD[random.nextInt(ODD.length)] : random.nextInt(100);
             int b = random.nextInt(3) == 0 ? ODD[random.nextInt(ODD.length)] : random.nextInt(10);
             quiet(x, call, random.nextInt(3) == 0 ? a % 8 : a, b, random.nextInt(3));
@@ -38,13 +38,7 @@ public final class NeverThrowsTest {
 
     /** One segment of all keys, and what a merge with it makes. */
     private static void greatestSegments() {
-        SegmentMerges x = new SegmentMerges();
-        for (int key = 0; key < 100; key++) {
-            x.put(key, key);
-            if (key % 6 == 5 || key == 99) {
-                x.flush();
-            }
-        }
+        SegmentMerges x = States.ofAllKeys();
         while (x.count(1) > 1) {
             x.begin(0, Math.min(6, x.count(1)));
             x.step(1000);
@@ -64,11 +58,10 @@ public final class NeverThrowsTest {
     private static void quiet(SegmentMerges x, int call, int a, int b, int c) {
         String thrown = "";
         try {
-            ModelTest.ofObject(x, call, new int[] {a, b, c});
+            Face.answer(x, call, a, b, c);
         } catch (RuntimeException e) {
             thrown = e.toString();
         }
-        Check.due("number " + call + " of the face (" + a + ", " + b + ", " + c + ") threw " + thrown,
-                thrown.isEmpty() ? 0 : 1, 0);
+        Check.due(Face.told(call, a, b, c) + " threw " + thrown, thrown.isEmpty() ? 0 : 1, 0);
     }
 }

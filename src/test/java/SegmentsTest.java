@@ -11,8 +11,8 @@ public final class SegmentsTest {
 
     private static void counts() {
         SegmentMerges x = new SegmentMerges();
-        Check.flushed(x, 1, 1, 2, 2, 3, 3);
-        Check.flushed(x, 3, 4, 5, 5);
+        States.flushed(x, 1, 1, 2, 2, 3, 3);
+        States.flushed(x, 3, 4, 5, 5);
         x.put(1, 9);
         x.put(60, 6);
         x.drop(2);
@@ -30,8 +30,8 @@ public final class SegmentsTest {
 
     private static void writtenCountsMerges() {
         SegmentMerges x = new SegmentMerges();
-        Check.flushed(x, 1, 1, 2, 2);
-        Check.flushed(x, 3, 3);
+        States.flushed(x, 1, 1, 2, 2);
+        States.flushed(x, 3, 3);
         x.drop(2);
         x.begin(0, 2);
         x.step(2);
@@ -52,8 +52,8 @@ public final class SegmentsTest {
 
     private static void segments() {
         SegmentMerges x = new SegmentMerges();
-        Check.flushed(x, 1, 1, 2, 2, 3, 3);
-        Check.flushed(x, 4, 4);
+        States.flushed(x, 1, 1, 2, 2, 3, 3);
+        States.flushed(x, 4, 4);
         x.drop(2);
         Check.due("number", x.segment(1, 0), 1);
         Check.due("tier", x.segment(1, 1), 0);
@@ -72,14 +72,14 @@ public final class SegmentsTest {
     private static void segmentsWhileMerging() {
         SegmentMerges x = new SegmentMerges();
         for (int s = 0; s < 5; s++) {
-            Check.flushed(x, s, s);
+            States.flushed(x, s, s);
         }
         x.begin(1, 3);
         int[] due = {0, 1, 1, 1, 0};
         for (int s = 0; s < 5; s++) {
             Check.due("segment(" + s + ", 4)", x.segment(s, 4), due[s]);
         }
-        Check.flushed(x, 9, 9);
+        States.flushed(x, 9, 9);
         Check.due("a flushed one is not of it", x.segment(5, 4), 0);
         x.stop();
         for (int s = 0; s < 6; s++) {
@@ -95,7 +95,7 @@ public final class SegmentsTest {
 
     private static void rows() {
         SegmentMerges x = new SegmentMerges();
-        Check.flushed(x, 99, 999, 0, 0);
+        States.flushed(x, 99, 999, 0, 0);
         x.drop(99);
         Check.due("key", x.row(0, 0, 0), 0);
         Check.due("value", x.row(0, 0, 1), 0);

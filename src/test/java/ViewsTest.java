@@ -25,8 +25,8 @@ public final class ViewsTest {
 
     private static void viewsStay() {
         SegmentMerges x = new SegmentMerges();
-        Check.flushed(x, 1, 10, 2, 20);
-        Check.flushed(x, 3, 30);
+        States.flushed(x, 1, 10, 2, 20);
+        States.flushed(x, 3, 30);
         x.put(4, 40);
         x.put(0, 0);
         x.view();
@@ -114,7 +114,7 @@ public final class ViewsTest {
 
     private static void share() {
         SegmentMerges x = new SegmentMerges();
-        int thrown = Integer.MIN_VALUE;
+        int thrown = Model.THROWN;
         Check.due("no segments", Check.shareOrThrown(x), thrown);
         x.put(1, 1);
         Check.due("rows in the memory alone", Check.shareOrThrown(x), thrown);
@@ -126,7 +126,7 @@ public final class ViewsTest {
         Check.due("2/3, cut", Check.shareOrThrown(x), 666);
         x.put(60, 6);
         Check.due("the memory does not count", Check.shareOrThrown(x), 666);
-        Check.flushed(x, 70, 7, 71, 7, 72, 7);
+        States.flushed(x, 70, 7, 71, 7, 72, 7);
         Check.due("6/7, cut", Check.shareOrThrown(x), 857);
         for (int key = 0; key < 100; key++) {
             x.drop(key);
